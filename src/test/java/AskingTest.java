@@ -130,10 +130,15 @@ public final class AskingTest {
         due.is("23: 5 ago", lantern.then(5, 4), 99);
         due.is("23: 200 ago", lantern.then(200, 4), 60);
         due.is("23: 200 ago, at", lantern.then(200, 0), 3);
-        due.is("23: another cell", lantern.then(200, 15), 0);
         due.refused("23: 201 ago", lantern, Programs.INDEX, () -> lantern.then(201, 0));
-        lantern.back(150);
-        due.is("23: 50 ago", lantern.then(50, 4), 60);
+        lantern.run(1);
+        due.is("23: 1 ago, ahead of a store", lantern.then(1, 4), 100);
+        due.is("23: 0 ago, behind it", lantern.then(0, 4), 101);
+        lantern.back(1);
+        due.is("23: another cell", lantern.then(199, 15), 0);
+        due.refused("23: 200 ago, when one is back", lantern, Programs.INDEX, () -> lantern.then(200, 0));
+        lantern.back(149);
+        due.is("23: 50 ago", lantern.then(50, 4), 61);
         due.refused("23: 51 ago", lantern, Programs.INDEX, () -> lantern.then(51, 0));
     }
 

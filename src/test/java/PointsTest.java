@@ -14,6 +14,7 @@ public final class PointsTest {
         watchingRefused();
         watchesAndWhatIsBehind();
         unwatching();
+        asManyAsThereCanBe();
         due.end();
     }
 
@@ -199,6 +200,31 @@ public final class PointsTest {
         lantern.run(3);
         lantern.over(1);
         stopped("9: ahead of the goal", lantern, 3, 0);
+    }
+
+    private static void asManyAsThereCanBe() {
+        Lantern lantern = Programs.counter();
+        for (int i = 0; i < 5; i++) {
+            lantern.point(i, 90);
+        }
+        lantern.point(1, 0);
+        for (int i = 0; i < 3; i++) {
+            lantern.watch(5, 1, 0);
+        }
+        lantern.watch(0, 1, 0);
+        lantern.run(99);
+        stopped("6: the last of six points", lantern, 5, 5);
+        lantern.run(99);
+        stopped("9: the last of four watches", lantern, 3, 3);
+        lantern.backRun();
+        stopped("15: the last of four watches", lantern, 3, 3);
+        for (int i = 0; i < 5; i++) {
+            lantern.turn(i, false, 0);
+        }
+        lantern.backRun();
+        stopped("15: the last of six points", lantern, 5, 5);
+        due.is("15: none of six points", lantern.backRun(), 1);
+        stopped("15: none of six points", lantern, 7, -1);
     }
 
     private static void unwatching() {

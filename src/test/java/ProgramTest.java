@@ -146,7 +146,7 @@ public final class ProgramTest {
         due.is("5: ready again", lantern.told(Programs.STATUS), 0);
         due.is("5: no output", lantern.told(Programs.IN_OUTPUT), 0);
         Lantern counter = Programs.counter();
-        counter.run(9);
+        counter.run(8);
         counter.restart();
         due.is("5: cells are 0", counter.cell(0), 0);
         due.is("5: nothing stored", counter.wroteAgo(0), 0);

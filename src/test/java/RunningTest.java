@@ -9,6 +9,7 @@ public final class RunningTest {
         goingOut();
         goingBack();
         backUndoesEachCode();
+        backToWhatWasWrittenOver();
         backFromFailed();
         goneFromThePast();
         backRunToPoints();
@@ -156,6 +157,28 @@ public final class RunningTest {
         }
     }
 
+    /** What was taken, and written over since, comes again. */
+    private static void backToWhatWasWrittenOver() {
+        Lantern lantern = Programs.of(Programs.READ, 0, Programs.CALL, 5, Programs.CALL, 5, Programs.WRITE, 0,
+            Programs.HALT, 0, Programs.POP, 0, Programs.READ, 0, Programs.RETURN, 0);
+        lantern.give(4);
+        lantern.give(5);
+        lantern.give(6);
+        lantern.run(99);
+        due.is("14: written", lantern.output(0), 6);
+        lantern.back(4);
+        due.is("14: second READ is to come", lantern.told(Programs.WAS_READ), 2);
+        due.is("14: second way back", lantern.frame(0), 3);
+        lantern.back(3);
+        due.is("14: within the first call", lantern.told(Programs.AT), 7);
+        due.is("14: its way back", lantern.frame(0), 2);
+        due.is("14: what it read", lantern.stack(0), 5);
+        lantern.back(1);
+        due.is("14: ahead of what it read", lantern.told(Programs.WAS_READ), 1);
+        due.is("14: done again", lantern.run(99), 8);
+        due.is("14: written again", lantern.output(0), 6);
+    }
+
     private static long[] shown(Lantern lantern) {
         long[] shown = new long[8 + 12 + 24 + 8 + 30];
         for (int what = 0; what < 8; what++) {
@@ -262,6 +285,11 @@ public final class RunningTest {
         stopped("15: at start", lantern, 7, -1);
         lantern.unwatch();
         lantern.run(99);
+        lantern.run(99);
+        lantern.watch(2, 2, 555);
+        due.is("15: watch 0", lantern.backRun(), 2);
+        stopped("15: watch 0", lantern, 3, 0);
+        lantern.unwatch();
         lantern.run(99);
         due.is("15: the point without watches", lantern.backRun(), 6);
         stopped("15: the point without watches", lantern, 5, 0);

@@ -28,6 +28,9 @@ public final class WhatWouldBeTest {
         fails.run(1);
         due.is("28: failed", fails.endsIn(1), 0);
         due.is("28: never", Programs.counter().endsIn(500), -1);
+        Lantern called = Programs.of(Programs.CALL, 2, Programs.HALT, 0, Programs.RETURN, 0);
+        called.run(1);
+        due.is("28: from within a frame", called.endsIn(9), 2);
         due.is("28: without steps", new Lantern().endsIn(1), 0);
     }
 
@@ -120,6 +123,14 @@ public final class WhatWouldBeTest {
         Lantern counter = Programs.counter();
         counter.run(40);
         due.is("32: of the counter", counter.digest(), digestOf(counter, 0));
+        for (int steps = 46; steps <= 52; steps++) {
+            Lantern ends = new Lantern();
+            for (int i = 1; i < steps; i++) {
+                ends.step(Programs.GO, i);
+            }
+            ends.step(Programs.HALT, 0);
+            due.is("32: to the end in " + steps, ends.digest(), digestOf(ends, 0));
+        }
         due.is("32: of a new one", new Lantern().digest(), digestOf(new Lantern(), 0));
     }
 
