@@ -24,6 +24,19 @@ final class Due {
         tell(isSo, what);
     }
 
+    /** Why it stopped last. */
+    void stopped(String what, Lantern lantern, int reason, int cause) {
+        is(what + ": reason", lantern.told(Programs.REASON), reason);
+        is(what + ": cause", lantern.told(Programs.CAUSE), cause);
+    }
+
+    void areSame(String what, long[] got, long[] due) {
+        is(what + ": so many", got.length, due.length);
+        for (int i = 0; i < Math.min(got.length, due.length); i++) {
+            is(what + ", asked " + i, got[i], due[i]);
+        }
+    }
+
     /** The call throws just this exception, and nothing of the object changes by it. */
     void refused(String what, Lantern lantern, Class<? extends Exception> due, Call call) {
         long before = Programs.seen(lantern);

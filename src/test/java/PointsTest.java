@@ -18,11 +18,6 @@ public final class PointsTest {
         due.end();
     }
 
-    private static void stopped(String what, Lantern lantern, int reason, int cause) {
-        due.is(what + ": reason", lantern.told(Programs.REASON), reason);
-        due.is(what + ": cause", lantern.told(Programs.CAUSE), cause);
-    }
-
     private static void adding() {
         Lantern lantern = Programs.counter();
         due.is("6: first", lantern.point(0, 0), 0);
@@ -32,14 +27,14 @@ public final class PointsTest {
         due.is("6: its pass", lantern.ofPoint(1, 2), 99);
         due.is("6: it was no cause", lantern.ofPoint(1, 3), 0);
         due.is("6: not asked ahead of the first step", lantern.run(100), 5);
-        stopped("6: behind a round", lantern, 5, 0);
+        due.stopped("6: behind a round", lantern, 5, 0);
         due.is("6: counted", lantern.ofPoint(0, 3), 1);
         due.is("6: behind the next round", lantern.run(100), 5);
         due.is("6: counted again", lantern.ofPoint(0, 3), 2);
         Lantern end = Programs.of(Programs.PUSH, 1);
         end.point(1, 0);
         due.is("6: stops where no step is", end.run(100), 1);
-        stopped("6: where no step is", end, 5, 0);
+        due.stopped("6: where no step is", end, 5, 0);
         due.is("6: ready there", end.told(Programs.STATUS), 0);
     }
 
@@ -72,12 +67,12 @@ public final class PointsTest {
         lantern.point(1, 0);
         lantern.point(1, 3);
         due.is("6: the smallest that stops", lantern.run(100), 1);
-        stopped("6: of four at a step", lantern, 5, 1);
+        due.stopped("6: of four at a step", lantern, 5, 1);
         due.is("6: the first has passed", lantern.ofPoint(0, 2), 0);
         due.is("6: the last has passed, too", lantern.ofPoint(3, 2), 2);
         due.is("6: another one is no cause", lantern.ofPoint(2, 3), 0);
         lantern.run(100);
-        stopped("6: now the first", lantern, 5, 0);
+        due.stopped("6: now the first", lantern, 5, 0);
         due.is("6: the last passes again", lantern.ofPoint(3, 2), 1);
     }
 
@@ -94,7 +89,7 @@ public final class PointsTest {
         lantern.run(100);
         due.is("7: less than 9", lantern.cell(0), 8);
         lantern.run(100);
-        stopped("7: never less again", lantern, 6, -1);
+        due.stopped("7: never less again", lantern, 6, -1);
         due.is("7: less before", lantern.condition(0, 0, 999, 5), 1);
         due.is("7: without any it stops", lantern.run(100), 5);
         lantern.turn(0, true, 1);
@@ -104,13 +99,13 @@ public final class PointsTest {
         due.is("7: cell 11", lantern.condition(0, 1, 11, 1), 2);
         lantern.turn(0, true, 0);
         lantern.run(50);
-        stopped("7: cell 11 is less than 1", lantern, 5, 0);
+        due.stopped("7: cell 11 is less than 1", lantern, 5, 0);
         lantern.condition(0, 1, 11, 0);
         lantern.run(50);
-        stopped("7: 0 is not less than 0", lantern, 6, -1);
+        due.stopped("7: 0 is not less than 0", lantern, 6, -1);
         lantern.condition(0, 3, 11, 0);
         lantern.run(50);
-        stopped("7: 0 is not above 0", lantern, 6, -1);
+        due.stopped("7: 0 is not above 0", lantern, 6, -1);
     }
 
     private static void conditionsRefused() {
@@ -133,10 +128,10 @@ public final class PointsTest {
         due.is("8: to pass still", lantern.turn(0, false, 7), 3);
         due.is("8: off", lantern.ofPoint(0, 1), 0);
         lantern.run(50);
-        stopped("8: off does not stop", lantern, 6, -1);
+        due.stopped("8: off does not stop", lantern, 6, -1);
         due.is("8: off has nothing to pass", lantern.turn(0, true, 0), 7);
         lantern.run(50);
-        stopped("8: on again", lantern, 5, 0);
+        due.stopped("8: on again", lantern, 5, 0);
         due.refused("8: point 1", lantern, Programs.INDEX, () -> lantern.turn(1, true, 100));
         due.refused("8: point -1", lantern, Programs.INDEX, () -> lantern.turn(-1, true, 0));
         due.refused("8: pass 100", lantern, Programs.ARGUMENT, () -> lantern.turn(0, false, 100));
@@ -150,29 +145,29 @@ public final class PointsTest {
             Programs.HALT, 0);
         due.is("9: kind 0", lantern.watch(3, 0, 55), 0);
         due.is("9: becomes 6", lantern.run(99), 4);
-        stopped("9: becomes 6", lantern, 3, 0);
+        due.stopped("9: becomes 6", lantern, 3, 0);
         due.is("9: 6 again is no other, then 9", lantern.run(99), 5);
         due.is("9: nine", lantern.cell(3), 9);
         lantern.restart();
         due.is("9: kind 2", lantern.watch(3, 2, 9), 1);
         due.is("9: kind 1", lantern.watch(3, 1, 0), 2);
         lantern.run(99);
-        stopped("9: the store of 0", lantern, 3, 2);
+        due.stopped("9: the store of 0", lantern, 3, 2);
         lantern.run(99);
-        stopped("9: the smallest number", lantern, 3, 0);
+        due.stopped("9: the smallest number", lantern, 3, 0);
         lantern.run(99);
-        stopped("9: a store of the same", lantern, 3, 2);
+        due.stopped("9: a store of the same", lantern, 3, 2);
         lantern.restart();
         lantern.unwatch();
         lantern.watch(2, 1, 0);
         lantern.watch(3, 2, 9);
         due.is("9: kind 2 waits for its number", lantern.run(99), 9);
-        stopped("9: kind 2", lantern, 3, 1);
+        due.stopped("9: kind 2", lantern, 3, 1);
         lantern.restart();
         lantern.unwatch();
         lantern.watch(3, 2, 0);
         lantern.run(99);
-        stopped("9: 0 at first is not become", lantern, 1, -1);
+        due.stopped("9: 0 at first is not become", lantern, 1, -1);
     }
 
     private static void watchingRefused() {
@@ -193,13 +188,13 @@ public final class PointsTest {
         lantern.watch(0, 0, 0);
         lantern.point(4, 3);
         lantern.run(4);
-        stopped("9: ahead of points and of most", lantern, 3, 0);
+        due.stopped("9: ahead of points and of most", lantern, 3, 0);
         due.is("9: the point was not asked", lantern.ofPoint(0, 2), 3);
         lantern.over(1);
-        stopped("9: over goes on", lantern, 4, -1);
+        due.stopped("9: over goes on", lantern, 4, -1);
         lantern.run(3);
         lantern.over(1);
-        stopped("9: ahead of the goal", lantern, 3, 0);
+        due.stopped("9: ahead of the goal", lantern, 3, 0);
     }
 
     private static void asManyAsThereCanBe() {
@@ -213,18 +208,18 @@ public final class PointsTest {
         }
         lantern.watch(0, 1, 0);
         lantern.run(99);
-        stopped("6: the last of six points", lantern, 5, 5);
+        due.stopped("6: the last of six points", lantern, 5, 5);
         lantern.run(99);
-        stopped("9: the last of four watches", lantern, 3, 3);
+        due.stopped("9: the last of four watches", lantern, 3, 3);
         lantern.backRun();
-        stopped("15: the last of four watches", lantern, 3, 3);
+        due.stopped("15: the last of four watches", lantern, 3, 3);
         for (int i = 0; i < 5; i++) {
             lantern.turn(i, false, 0);
         }
         lantern.backRun();
-        stopped("15: the last of six points", lantern, 5, 5);
+        due.stopped("15: the last of six points", lantern, 5, 5);
         due.is("15: none of six points", lantern.backRun(), 1);
-        stopped("15: none of six points", lantern, 7, -1);
+        due.stopped("15: none of six points", lantern, 7, -1);
     }
 
     private static void unwatching() {
@@ -234,9 +229,9 @@ public final class PointsTest {
         due.is("10: two", lantern.unwatch(), 2);
         due.is("10: none", lantern.unwatch(), 0);
         lantern.run(20);
-        stopped("10: none stops", lantern, 6, -1);
+        due.stopped("10: none stops", lantern, 6, -1);
         due.is("10: from 0 again", lantern.watch(0, 0, 0), 0);
         lantern.run(20);
-        stopped("10: a new one stops", lantern, 3, 0);
+        due.stopped("10: a new one stops", lantern, 3, 0);
     }
 }

@@ -45,10 +45,14 @@ final class Programs {
     /** A debugger with these STEPS: code, n, code, n, and so on. */
     static Lantern of(int... codesAndNumbers) {
         Lantern lantern = new Lantern();
+        add(lantern, codesAndNumbers);
+        return lantern;
+    }
+
+    private static void add(Lantern lantern, int[] codesAndNumbers) {
         for (int i = 0; i < codesAndNumbers.length; i += 2) {
             lantern.step(codesAndNumbers[i], codesAndNumbers[i + 1]);
         }
-        return lantern;
     }
 
     /** 0 to 4: CELL 0 becomes 1, 2, 3, and so on, five STEPS a round, without an end. */
@@ -59,6 +63,61 @@ final class Programs {
     /** 0 calls 3, 1 writes, 2 halts; 3 reads and calls 6, which squares; 5 and 8 return. */
     static Lantern caller() {
         return of(CALL, 3, WRITE, 0, HALT, 0, READ, 0, CALL, 6, RETURN, 0, TWICE, 0, TIMES, 0, RETURN, 0);
+    }
+
+    /** So many times the same number on the STACK, with these STEPS behind. */
+    static Lantern pushing(int many, int number, int... codesAndNumbers) {
+        Lantern lantern = new Lantern();
+        for (int i = 0; i < many; i++) {
+            lantern.step(PUSH, number);
+        }
+        add(lantern, codesAndNumbers);
+        return lantern;
+    }
+
+    /** These STEPS are done behind just so many others (8 at least), which count in CELL 0, eight a round. */
+    static Lantern behind(int many, int... codesAndNumbers) {
+        Lantern lantern = new Lantern();
+        int ahead = many % 8;
+        for (int i = 1; i <= ahead; i++) {
+            lantern.step(GO, i);
+        }
+        int[] round = {LOAD, 0, PUSH, 1, ADD, 0, TWICE, 0, STORE, 0, PUSH, many / 8, IS_SAME, 0, IF_NOT, ahead};
+        add(lantern, round);
+        add(lantern, codesAndNumbers);
+        return lantern;
+    }
+
+    /** So many CALLS, each within the one ahead of it, and a RETURN for each; 1 HALTS. */
+    static Lantern nest(int calls) {
+        Lantern lantern = of(CALL, 2, HALT, 0);
+        for (int i = 1; i < calls; i++) {
+            lantern.step(CALL, 2 * i + 2);
+            lantern.step(RETURN, 0);
+        }
+        lantern.step(RETURN, 0);
+        return lantern;
+    }
+
+    /** All of the STATE, and how large the PAST is. */
+    static long[] shown(Lantern lantern) {
+        long[] shown = new long[8 + 12 + 24 + 8 + 30];
+        for (int what = 0; what < 8; what++) {
+            shown[what] = lantern.told(what);
+        }
+        for (int cell = 0; cell < 12; cell++) {
+            shown[8 + cell] = lantern.cell(cell);
+        }
+        for (int place = 0; place < lantern.told(ON_STACK); place++) {
+            shown[20 + place] = lantern.stack(place);
+        }
+        for (int place = 0; place < lantern.told(FRAMES); place++) {
+            shown[44 + place] = lantern.frame(place);
+        }
+        for (int place = 0; place < lantern.told(IN_OUTPUT); place++) {
+            shown[52 + place] = lantern.output(place);
+        }
+        return shown;
     }
 
     /** A checksum of what can be asked without a change, in seven calls, as an object has only 512. */

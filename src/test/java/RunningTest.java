@@ -17,33 +17,28 @@ public final class RunningTest {
         due.end();
     }
 
-    private static void stopped(String what, Lantern lantern, int reason, int cause) {
-        due.is(what + ": reason", lantern.told(Programs.REASON), reason);
-        due.is(what + ": cause", lantern.told(Programs.CAUSE), cause);
-    }
-
     private static void running() {
         Lantern lantern = Programs.counter();
         due.is("11: one", lantern.run(1), 1);
-        stopped("11: one", lantern, 6, -1);
+        due.stopped("11: one", lantern, 6, -1);
         due.is("11: 500", lantern.run(500), 500);
         due.is("11: clock", lantern.told(Programs.CLOCK), 501);
         due.is("11: cell", lantern.cell(0), 100);
         Lantern short3 = Programs.of(Programs.PUSH, 1, Programs.POP, 0, Programs.HALT, 0);
         due.is("11: to the end", short3.run(3), 3);
-        stopped("11: to the end, which counts ahead of most", short3, 1, -1);
+        due.stopped("11: to the end, which counts ahead of most", short3, 1, -1);
         due.is("11: halted does nothing", short3.run(3), 0);
-        stopped("11: halted", short3, 1, -1);
+        due.stopped("11: halted", short3, 1, -1);
         Lantern failing = Programs.of(Programs.PUSH, 1, Programs.ADD, 0);
         due.is("11: up to a fail", failing.run(1), 1);
         due.is("11: it is not looked ahead", failing.told(Programs.STATUS), 0);
-        stopped("11: up to a fail", failing, 6, -1);
+        due.stopped("11: up to a fail", failing, 6, -1);
         due.is("11: fails", failing.run(1), 0);
-        stopped("11: fails", failing, 2, -1);
+        due.stopped("11: fails", failing, 2, -1);
         Lantern last = Programs.counter();
         last.point(2, 0);
         last.run(2);
-        stopped("11: a point counts ahead of most", last, 5, 0);
+        due.stopped("11: a point counts ahead of most", last, 5, 0);
     }
 
     private static void runsRefused() {
@@ -65,29 +60,29 @@ public final class RunningTest {
         lantern.point(0, 0);
         lantern.point(3, 0);
         due.is("12: to a point within", lantern.over(500), 1);
-        stopped("12: to a point within", lantern, 5, 1);
+        due.stopped("12: to a point within", lantern, 5, 1);
         lantern.restart();
         lantern.turn(1, false, 0);
         due.is("12: over a call", lantern.over(500), 7);
-        stopped("12: over a call", lantern, 4, -1);
+        due.stopped("12: over a call", lantern, 4, -1);
         due.is("12: behind the call", lantern.told(Programs.AT), 1);
         lantern.restart();
         due.is("12: not all of a call", lantern.over(6), 6);
-        stopped("12: not all of a call", lantern, 6, -1);
+        due.stopped("12: not all of a call", lantern, 6, -1);
         lantern.restart();
         lantern.run(2);
         due.is("12: over the inner call", lantern.over(500), 4);
         due.is("12: behind the inner call", lantern.told(Programs.AT), 5);
         lantern.point(1, 1);
         due.is("12: over RETURN is one step", lantern.over(500), 1);
-        stopped("12: over RETURN", lantern, 4, -1);
+        due.stopped("12: over RETURN", lantern, 4, -1);
         due.is("12: the point was not asked", lantern.ofPoint(2, 2), 1);
         lantern.over(500);
         due.is("12: HALT counts ahead of the goal", lantern.over(500), 1);
-        stopped("12: HALT", lantern, 1, -1);
+        due.stopped("12: HALT", lantern, 1, -1);
         Lantern round = Programs.of(Programs.CALL, 1, Programs.HALT, 0);
         due.is("12: a call that halts", round.over(9), 2);
-        stopped("12: a call that halts", round, 1, -1);
+        due.stopped("12: a call that halts", round, 1, -1);
     }
 
     private static void goingOut() {
@@ -96,7 +91,7 @@ public final class RunningTest {
         lantern.run(4);
         due.is("13: two frames", lantern.told(Programs.FRAMES), 2);
         due.is("13: out of the inner one", lantern.out(500), 2);
-        stopped("13: out of the inner one", lantern, 4, -1);
+        due.stopped("13: out of the inner one", lantern, 4, -1);
         due.is("13: at its way back", lantern.told(Programs.AT), 5);
         lantern.back(4);
         due.is("13: out of the outer one, by the inner", lantern.out(500), 5);
@@ -104,22 +99,22 @@ public final class RunningTest {
         lantern.back(6);
         lantern.point(1, 1);
         due.is("13: too few", lantern.out(3), 3);
-        stopped("13: too few", lantern, 6, -1);
+        due.stopped("13: too few", lantern, 6, -1);
         lantern.out(500);
         due.is("13: the goal counts ahead of points", lantern.ofPoint(0, 2), 1);
         Lantern halted = Programs.of(Programs.CALL, 1, Programs.HALT, 0);
         halted.run(9);
         due.is("13: halted within a frame", halted.out(9), 0);
-        stopped("13: halted within a frame", halted, 1, -1);
+        due.stopped("13: halted within a frame", halted, 1, -1);
     }
 
     private static void goingBack() {
         Lantern lantern = Programs.counter();
         due.is("14: no past", lantern.back(1), 0);
-        stopped("14: no past", lantern, 7, -1);
+        due.stopped("14: no past", lantern, 7, -1);
         lantern.run(14);
         due.is("14: four", lantern.back(4), 4);
-        stopped("14: four", lantern, 7, -1);
+        due.stopped("14: four", lantern, 7, -1);
         due.is("14: clock", lantern.told(Programs.CLOCK), 10);
         due.is("14: past", lantern.told(Programs.PAST), 10);
         due.is("14: cell", lantern.cell(0), 2);
@@ -147,13 +142,10 @@ public final class RunningTest {
                 code, code >= 12 && code <= 18 ? 4 : 3);
             lantern.give(77);
             lantern.run(8);
-            long[] before = shown(lantern);
+            long[] before = Programs.shown(lantern);
             due.is("14: " + code + " is done", lantern.run(1), 1);
             due.is("14: " + code + " is taken back", lantern.back(1), 1);
-            long[] behind = shown(lantern);
-            for (int i = 0; i < before.length; i++) {
-                due.is("14: " + code + " taken back, asked " + i, behind[i], before[i]);
-            }
+            due.areSame("14: " + code + " taken back", Programs.shown(lantern), before);
         }
     }
 
@@ -177,26 +169,6 @@ public final class RunningTest {
         due.is("14: ahead of what it read", lantern.told(Programs.WAS_READ), 1);
         due.is("14: done again", lantern.run(99), 8);
         due.is("14: written again", lantern.output(0), 6);
-    }
-
-    private static long[] shown(Lantern lantern) {
-        long[] shown = new long[8 + 12 + 24 + 8 + 30];
-        for (int what = 0; what < 8; what++) {
-            shown[what] = lantern.told(what);
-        }
-        for (int cell = 0; cell < 12; cell++) {
-            shown[8 + cell] = lantern.cell(cell);
-        }
-        for (int place = 0; place < lantern.told(Programs.ON_STACK); place++) {
-            shown[20 + place] = lantern.stack(place);
-        }
-        for (int place = 0; place < lantern.told(Programs.FRAMES); place++) {
-            shown[44 + place] = lantern.frame(place);
-        }
-        for (int place = 0; place < lantern.told(Programs.IN_OUTPUT); place++) {
-            shown[52 + place] = lantern.output(place);
-        }
-        return shown;
     }
 
     private static void backFromFailed() {
@@ -232,7 +204,7 @@ public final class RunningTest {
         due.is("15: none", lantern.backRun(), 0);
         lantern.run(499);
         due.is("15: as far as there is", lantern.backRun(), 200);
-        stopped("15: as far as there is", lantern, 7, -1);
+        due.stopped("15: as far as there is", lantern, 7, -1);
     }
 
     private static void backRunToPoints() {
@@ -241,14 +213,14 @@ public final class RunningTest {
         lantern.point(2, 0);
         lantern.condition(1, 2, 0, 1);
         lantern.run(7);
-        stopped("15: stopped at a point", lantern, 5, 1);
+        due.stopped("15: stopped at a point", lantern, 5, 1);
         lantern.turn(0, false, 40);
         due.is("15: one at least, none else", lantern.backRun(), 7);
-        stopped("15: the condition never held", lantern, 7, -1);
+        due.stopped("15: the condition never held", lantern, 7, -1);
         lantern.turn(0, true, 40);
         lantern.run(4);
         due.is("15: to the point, whatever it has to pass", lantern.backRun(), 2);
-        stopped("15: to the point", lantern, 5, 0);
+        due.stopped("15: to the point", lantern, 5, 0);
         due.is("15: nothing is passed", lantern.ofPoint(0, 2), 39);
         due.is("15: it is not counted", lantern.ofPoint(0, 3), 0);
         lantern.turn(0, true, 0);
@@ -260,13 +232,13 @@ public final class RunningTest {
         lantern.turn(1, true, 9);
         lantern.backRun();
         due.is("15: where its condition holds", lantern.cell(0), 1);
-        stopped("15: where its condition holds", lantern, 5, 1);
+        due.stopped("15: where its condition holds", lantern, 5, 1);
         due.is("15: at", lantern.told(Programs.AT), 2);
         Lantern first = Programs.counter();
         first.run(3);
         first.point(0, 0);
         due.is("15: to start", first.backRun(), 3);
-        stopped("15: a point at start", first, 5, 0);
+        due.stopped("15: a point at start", first, 5, 0);
     }
 
     private static void backRunToWatches() {
@@ -278,20 +250,20 @@ public final class RunningTest {
         lantern.watch(3, 2, 555);
         lantern.point(3, 0);
         due.is("15: to where the cell becomes another one, of whatever kind", lantern.backRun(), 6);
-        stopped("15: a watch ahead of a point, the smallest", lantern, 3, 1);
+        due.stopped("15: a watch ahead of a point, the smallest", lantern, 3, 1);
         due.is("15: the cell", lantern.cell(3), 0);
         due.is("15: at the step that stores", lantern.told(Programs.AT), 3);
         due.is("15: a store of the same does not stop", lantern.backRun(), 3);
-        stopped("15: at start", lantern, 7, -1);
+        due.stopped("15: at start", lantern, 7, -1);
         lantern.unwatch();
         lantern.run(99);
         lantern.run(99);
         lantern.watch(2, 2, 555);
         due.is("15: watch 0", lantern.backRun(), 2);
-        stopped("15: watch 0", lantern, 3, 0);
+        due.stopped("15: watch 0", lantern, 3, 0);
         lantern.unwatch();
         lantern.run(99);
         due.is("15: the point without watches", lantern.backRun(), 6);
-        stopped("15: the point without watches", lantern, 5, 0);
+        due.stopped("15: the point without watches", lantern, 5, 0);
     }
 }
