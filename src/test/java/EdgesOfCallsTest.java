@@ -81,12 +81,16 @@ public final class EdgesOfCallsTest {
         lantern.watch(0, 1, MAX);
         lantern.run(9);
         due.stopped("9: n is not looked at with kind 0", lantern, 3, 0);
+        lantern.unwatch();
         lantern.point(2, 0);
-        due.is("7: CELL and n are not looked at with 0", lantern.condition(0, 0, MIN, MAX), 0);
-        lantern.run(9);
-        due.stopped("7: CELL and n are not looked at with 0", lantern, 5, 0);
-        due.is("15: nor going BACK", lantern.back(1) + lantern.run(1), 2);
-        due.stopped("15: nor going BACK", lantern, 5, 0);
+        for (int cell : new int[] {MIN, -1, 0, 11, 12, 13, MAX}) {
+            String what = "7: CELL " + cell + " is not looked at with 0";
+            due.is(what, lantern.condition(0, 0, cell, MAX), 0);
+            due.is(what + ", running", lantern.run(9) > 0 ? 1 : 0, 1);
+            due.stopped(what + ", running", lantern, 5, 0);
+            due.is(what + ", going BACK", lantern.run(3) + lantern.backRun(), 6);
+            due.stopped(what + ", going BACK", lantern, 5, 0);
+        }
     }
 
     private static void rewritingTheFirstAndTheLast() {
@@ -228,11 +232,14 @@ public final class EdgesOfCallsTest {
             due.is("23: at, " + ago + " ago", lantern.then(ago, 0), clock % 5);
             due.is("23: the CELL, " + ago + " ago", lantern.then(ago, 4), (clock + 1) / 5);
         }
-        Lantern deep = Programs.pushing(24, 7);
+        Lantern deep = new Lantern();
+        for (int i = 1; i <= 24; i++) {
+            deep.step(Programs.PUSH, i * 7);
+        }
         deep.run(24);
         for (int ago = 0; ago <= 24; ago++) {
             due.is("23: on the STACK, " + ago + " ago", deep.then(ago, 1), 24 - ago);
-            due.is("23: on top, " + ago + " ago", deep.then(ago, 2), ago == 24 ? 0 : 7);
+            due.is("23: on top, " + ago + " ago", deep.then(ago, 2), (24 - ago) * 7);
         }
         Lantern calls = Programs.of(Programs.CALL, 0);
         calls.run(9);

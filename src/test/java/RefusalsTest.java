@@ -1,6 +1,4 @@
-import java.util.LinkedHashMap;
 import java.util.List;
-import java.util.Map;
 import java.util.function.Supplier;
 
 /**
@@ -15,23 +13,25 @@ public final class RefusalsTest {
 
     private final String name;
     private final Supplier<Lantern> made;
+    private final int[] sizes;
     private final List<String> untouched;
 
-    private RefusalsTest(String name, Supplier<Lantern> made) {
+    /** sizes: how many STEPS, in the INPUT, POINTS, on the STACK, FRAMES, in the OUTPUT, in the PAST. */
+    private RefusalsTest(String name, Supplier<Lantern> made, int... sizes) {
         this.name = name;
         this.made = made;
+        this.sizes = sizes;
         this.untouched = Probe.answersOf(made.get());
     }
 
     public static void main(String[] args) {
-        Map<String, Supplier<Lantern>> all = new LinkedHashMap<>();
-        all.put("new", Lantern::new);
-        all.put("within", RefusalsTest::within);
-        all.put("halted", RefusalsTest::halted);
-        all.put("failed", RefusalsTest::failed);
-        all.put("full", RefusalsTest::full);
-        for (Map.Entry<String, Supplier<Lantern>> entry : all.entrySet()) {
-            RefusalsTest test = new RefusalsTest(entry.getKey(), entry.getValue());
+        RefusalsTest fresh = new RefusalsTest("new", Lantern::new, 0, 0, 0, 0, 0, 0, 0);
+        RefusalsTest within = new RefusalsTest("within", RefusalsTest::within, 9, 2, 2, 2, 2, 0, 4);
+        RefusalsTest halted = new RefusalsTest("halted", RefusalsTest::halted, 4, 1, 1, 0, 1, 1, 4);
+        RefusalsTest failed = new RefusalsTest("failed", RefusalsTest::failed, 3, 1, 0, 0, 0, 0, 2);
+        RefusalsTest full = new RefusalsTest("full", RefusalsTest::full, 80, 20, 6, 24, 8, 30, 200);
+        RefusalsTest gone = new RefusalsTest("gone", RefusalsTest::gone, 5, 0, 0, 1, 0, 0, 0);
+        for (RefusalsTest test : List.of(fresh, within, halted, failed, full, gone)) {
             test.program();
             test.pointsAndWatches();
             test.running();
@@ -42,10 +42,10 @@ public final class RefusalsTest {
             test.asManyAsThereAre();
             test.lastOnesAreTaken();
         }
-        new RefusalsTest("new", Lantern::new).whereNothingIs();
-        new RefusalsTest("within", RefusalsTest::within).whereSomethingIs();
-        new RefusalsTest("full", RefusalsTest::full).whereAllIsFull();
-        new RefusalsTest("gone", RefusalsTest::gone).whereThePastIsGone();
+        fresh.whereNothingIs();
+        within.whereSomethingIs();
+        full.whereAllIsFull();
+        gone.whereThePastIsGone();
         due.end();
     }
 
@@ -263,24 +263,19 @@ public final class RefusalsTest {
         }
     }
 
-    /** The first place behind those that there are; the one ahead of it is there. */
+    /** The first place behind those that there are is refused; the first and the last of them are taken. */
     private void asManyAsThereAre() {
-        Lantern sized = made.get();
-        int onStack = sized.told(Programs.ON_STACK);
-        int frames = sized.told(Programs.FRAMES);
-        int written = sized.told(Programs.IN_OUTPUT);
-        int past = sized.told(Programs.PAST);
-        bounded("17: stack", onStack, Lantern::stack);
-        bounded("19: frame", frames, Lantern::frame);
-        bounded("20: output", written, Lantern::output);
-        bounded("23: then", past + 1, (it, place) -> it.then(place, 15));
-        bounded("23: then", past + 1, (it, place) -> it.then(place, 0));
-        bounded("21: ofStep", steps(), (it, place) -> it.ofStep(place, 2));
-        bounded("3: rewrite", steps(), (it, place) -> it.rewrite(place, 22, 0));
-        bounded("22: ofPoint", points(), (it, place) -> it.ofPoint(place, 3));
-        bounded("7: condition", points(), (it, place) -> it.condition(place, 0, 99, 0));
-        bounded("8: turn", points(), (it, place) -> it.turn(place, false, 99));
-        bounded("30: outputWith", given(), (it, place) -> it.outputWith(place, 3));
+        bounded("3: rewrite", sizes[0], (it, place) -> it.rewrite(place, 22, 0));
+        bounded("21: ofStep", sizes[0], (it, place) -> it.ofStep(place, 2));
+        bounded("30: outputWith", sizes[1], (it, place) -> it.outputWith(place, 3));
+        bounded("7: condition", sizes[2], (it, place) -> it.condition(place, 0, 99, 0));
+        bounded("8: turn", sizes[2], (it, place) -> it.turn(place, false, 99));
+        bounded("22: ofPoint", sizes[2], (it, place) -> it.ofPoint(place, 3));
+        bounded("17: stack", sizes[3], Lantern::stack);
+        bounded("19: frame", sizes[4], Lantern::frame);
+        bounded("20: output", sizes[5], Lantern::output);
+        bounded("23: then", sizes[6] + 1, (it, place) -> it.then(place, 0));
+        bounded("23: then", sizes[6] + 1, (it, place) -> it.then(place, 15));
     }
 
     private interface PlacedCall {
@@ -298,28 +293,6 @@ public final class RefusalsTest {
     private void taken(String call, Probe.Call on) {
         String got = Probe.answer(made.get(), on);
         due.isSo(name + ": " + call + ": " + got + ", due is an answer", !got.endsWith("Exception"));
-    }
-
-    private int steps() {
-        return made.get().restart();
-    }
-
-    private int points() {
-        Lantern lantern = made.get();
-        int points = 0;
-        while (points < 6 && !Probe.answer(lantern, askOfPoint(points)).endsWith("Exception")) {
-            points++;
-        }
-        return points;
-    }
-
-    private static Probe.Call askOfPoint(int point) {
-        return it -> it.ofPoint(point, 0);
-    }
-
-    private int given() {
-        String got = Probe.answer(made.get(), it -> it.give(0));
-        return got.endsWith("Exception") ? 20 : Integer.parseInt(got) - 1;
     }
 
     // ---- taken by every object: the last ones on each side
