@@ -228,6 +228,10 @@ public final class Lantern {
         return point >= 0 && point < pointCount && point < points.length ? points[point] : null;
     }
 
+    private Watch watchNumbered(int watch) {
+        return watch >= 0 && watch < watchCount && watch < watches.length ? watches[watch] : null;
+    }
+
     // ---- running
 
     public int run(int most) throws IllegalArgumentException {
@@ -330,10 +334,11 @@ public final class Lantern {
             stopBy(BY_GOAL, NONE);
             return true;
         }
-        int point = pointStopping();
-        if (point != NONE) {
-            stopBy(BY_POINT, point);
-            points[point].stops++;
+        int number = pointStopping();
+        Point point = pointNumbered(number);
+        if (point != null) {
+            stopBy(BY_POINT, number);
+            point.stops++;
             return true;
         }
         return false;
@@ -345,7 +350,8 @@ public final class Lantern {
             return NONE;
         }
         for (int i = 0; i < watchCount; i++) {
-            if (watches[i].isMetBy(latest)) {
+            Watch watch = watchNumbered(i);
+            if (watch != null && watch.isMetBy(latest)) {
                 return i;
             }
         }
@@ -356,7 +362,8 @@ public final class Lantern {
     private int pointStopping() {
         int first = NONE;
         for (int i = 0; i < pointCount; i++) {
-            if (points[i].isHit(state) && !points[i].letsPass() && first == NONE) {
+            Point point = pointNumbered(i);
+            if (point != null && point.isHit(state) && !point.letsPass() && first == NONE) {
                 first = i;
             }
         }
@@ -375,13 +382,15 @@ public final class Lantern {
 
     private boolean stopsBackRun(Moment undone) {
         for (int i = 0; i < watchCount; i++) {
-            if (undone.changed(watches[i].cell)) {
+            Watch watch = watchNumbered(i);
+            if (watch != null && undone.changed(watch.cell)) {
                 stopBy(BY_WATCH, i);
                 return true;
             }
         }
         for (int i = 0; i < pointCount; i++) {
-            if (points[i].isHit(state)) {
+            Point point = pointNumbered(i);
+            if (point != null && point.isHit(state)) {
                 stopBy(BY_POINT, i);
                 return true;
             }
@@ -637,10 +646,13 @@ public final class Lantern {
     private long mixedPoints(long before) {
         long d = before;
         for (int i = 0; i < pointCount; i++) {
-            d = mixed(d, points[i].step);
-            d = mixed(d, truth(points[i].isOn));
-            d = mixed(d, points[i].pass);
-            d = mixed(d, points[i].stops);
+            Point point = pointNumbered(i);
+            if (point != null) {
+                d = mixed(d, point.step);
+                d = mixed(d, truth(point.isOn));
+                d = mixed(d, point.pass);
+                d = mixed(d, point.stops);
+            }
         }
         return d;
     }

@@ -71,11 +71,15 @@ public final class EdgesOfCallsTest {
             for (int n : new int[] {MIN, -1, 12, 81, MAX}) {
                 Lantern with = Programs.of(Programs.CALL, 1, Programs.PUSH, 3, Programs.PUSH, 4, code, n);
                 Lantern without = Programs.of(Programs.CALL, 1, Programs.PUSH, 3, Programs.PUSH, 4, code, 0);
+                due.is("21: the number of " + code + " as it was given", with.ofStep(3, 1), n);
                 due.is("2: " + code + " " + n, with.run(4), 4);
                 without.run(4);
                 due.areSame("2: " + code + " " + n, Programs.shown(with), Programs.shown(without));
             }
         }
+        Lantern written = Programs.of(Programs.PUSH, 3);
+        written.rewrite(0, Programs.POP, MIN);
+        due.is("21: the number as it was rewritten", written.ofStep(0, 1), MIN);
         Lantern lantern = Programs.counter();
         lantern.watch(0, 0, MIN);
         lantern.watch(0, 1, MAX);
